@@ -6,7 +6,7 @@ import java.util.Arrays;
  *
  * All work goes through two other rows of numbers: those before the s(a), and those before the
  * p(a). The latter are kept 720 times as great, since z of every partition divides 720: so every
- * number here is whole. No number on the way comes near the bounds of a long: weights are at most
+ * number here is whole. No number on the way passes the bounds of a long: weights are at most
  * 100000, and the numbers before the p(a), 720 times as great, at most 760 millions.
  */
 public final class BasisMoves {
