@@ -34,6 +34,7 @@ public final class BasisMovesBoundsTest {
         degreesOfTimes();
         degreesOfPlug();
         degreesThatHaveGone();
+        leastNumbers();
         calls512();
         CHECKS.end();
     }
@@ -510,6 +511,38 @@ public final class BasisMovesBoundsTest {
             CHECKS.due("put(6, 0, " + a + ", -1)", x.put(6, 0, a, -1), 1);
             CHECKS.due("degree(6)", x.degree(6), x.about(a, 0));
         }
+    }
+
+    /** In h(6), e(6), m(1 1 1 1 1 1) the number before p of six ones is 1/720: it is not to be lost. */
+    private static void leastNumbers() {
+        CHECKS.sentence("Each SUM is, in one way, numbers times members of each BASE .. of BASE 3 fractions (the least)");
+        for (int base = 1; base <= 2; base++) {
+            for (int sign = -1; sign <= 1; sign += 2) {
+                BasisMoves x = new BasisMoves();
+                CHECKS.due("put(0, ..)", x.put(0, base, 19, sign), 1);
+                CHECKS.due("put(1, 0, 0, 1)", x.put(1, 0, 0, 1), 1);
+                CHECKS.due("put(2, 2, 1, 1)", x.put(2, 2, 1, 1), 1);
+                CHECKS.due("put(3, 2, 19, 1)", x.put(3, 2, 19, 1), 1);
+                CHECKS.due("upper", x.coefficient(0, 3, 29, 0), sign);
+                CHECKS.due("lower", x.coefficient(0, 3, 29, 1), 720);
+                keeps(x, base, sign, "times(4, 0, 1)", y -> y.times(4, 0, 1));
+                keeps(x, base, sign, "times(4, 1, 0)", y -> y.times(4, 1, 0));
+                keeps(x, base, sign, "strip(4, 1, 0)", y -> y.strip(4, 1, 0));
+                keeps(x, base, sign, "plug(4, 0, 2)", y -> y.plug(4, 0, 2));
+                keeps(x, base, sign, "plug(4, 2, 0)", y -> y.plug(4, 2, 0));
+                keeps(x, base, sign, "meet(4, 0, 3), with h(6)", y -> y.meet(4, 0, 3));
+                keeps(x, base, sign, "meet(4, 3, 0), with h(6)", y -> y.meet(4, 3, 0));
+                keeps(x, 3 - base, sign, "turn(4, 0)", y -> y.turn(4, 0));
+                CHECKS.due("value(0, 1, 0, 0)", x.value(0, 1, 0, 0), base == 2 ? sign : 0);
+                CHECKS.due("value(0, 1, 1, 1)", x.value(0, 1, 1, 1), base == 2 ? 28 * sign : 0);
+            }
+        }
+    }
+
+    /** A call by which slot 4 must hold e(6) or h(6), with a sign, and nothing else. */
+    private static void keeps(BasisMoves x, int base, int sign, String call, Checks.Call made) {
+        CHECKS.due(call, made.on(x), 1);
+        CHECKS.same("by base " + base + " after " + call, Checks.numbers(x, 4, base), "19:" + sign + " ");
     }
 
     private static void calls512() {
