@@ -744,7 +744,7 @@ public final class BasisMoves {
             int end = Partitions.endOf(TOP_DEGREE - partitions.degrees[a]);
             for (int b = 0; b < end; b++) {
                 int both = partitions.joined(a, b);
-                if (both >= 0) {
+                if (isPartition(both)) {
                     to[both] += number * other[b];
                 }
             }
@@ -777,7 +777,7 @@ public final class BasisMoves {
             int end = Partitions.endOf(TOP_DEGREE - partitions.degrees[c]);
             for (int d = 0; d < end; d++) {
                 int both = partitions.joined(c, d);
-                if (both >= 0) {
+                if (isPartition(both)) {
                     sum += factor[d] * scalarWithPower(both, numbers);
                 }
             }
@@ -811,8 +811,11 @@ public final class BasisMoves {
             Arrays.fill(product, 0L);
             product[0] = COMMON;
             for (int i = 0; i < partitions.lengths[c]; i++) {
-                multiply(stretched[partitions.partAt(c, i)], product, longer);
-                System.arraycopy(longer, 0, product, 0, PARTITIONS);
+                int part = partitions.partAt(c, i);
+                if (part > 0 && part <= TOP_DEGREE) {
+                    multiply(stretched[part], product, longer);
+                    System.arraycopy(longer, 0, product, 0, PARTITIONS);
+                }
             }
         }
 
@@ -821,7 +824,7 @@ public final class BasisMoves {
             Arrays.fill(to, 0L);
             for (int a = 0; a < PARTITIONS; a++) {
                 int stretchedTo = partitions.multiplied(a, k);
-                if (stretchedTo >= 0) {
+                if (isPartition(stretchedTo)) {
                     to[stretchedTo] = numbers[a];
                 }
             }
@@ -835,7 +838,7 @@ public final class BasisMoves {
                     for (int k = 0; i + j + k <= TOP_DEGREE; k++) {
                         int mark = Partitions.markOf(i) + Partitions.markOf(j) + Partitions.markOf(k);
                         int a = partitions.numberOf(mark, i + j + k);
-                        if (a >= 0 && weights[a] != 0) {
+                        if (isPartition(a) && weights[a] != 0) {
                             sum += weights[a] * powerOf(x, i) * powerOf(y, j) * powerOf(z, k);
                         }
                     }
